@@ -39,7 +39,7 @@ public final class PatternLoom {
             }
         }
         names[0] = new Pattern(HEM, 0, 0, 0, null, null);
-        names[1] = new Pattern(SEAM, 0, 0, 0, dyes[0], null);
+        names[1] = new Pattern(SEAM, 0, 0, 0, null, null);
     }
 
     public int dye(int d, int i, int v) {
@@ -66,8 +66,9 @@ public final class PatternLoom {
         if (patternCount >= MOST_PATTERNS) {
             return FULL;
         }
+        int[] fastRow = sort == FAST && isDye(b) ? dyes[b].clone() : null;
         Pattern old = sort == OLD ? named(a) : null;
-        patterns[patternCount] = new Pattern(sort, a, b, c, rowFor(sort, b), old);
+        patterns[patternCount] = new Pattern(sort, a, b, c, fastRow, old);
         patternCount++;
         return patternCount - 1;
     }
@@ -207,17 +208,6 @@ public final class PatternLoom {
         }
     }
 
-    /** A DYED one keeps the dye itself, so that it sees what becomes of it; a FAST one a copy. */
-    private int[] rowFor(int sort, int b) {
-        if (!isDye(b)) {
-            return null;
-        }
-        if (sort == DYED) {
-            return dyes[b];
-        }
-        return sort == FAST ? dyes[b].clone() : null;
-    }
-
     private int tellPlace(Pattern p, int x, int y) {
         asked = 0;
         failure = NO_FAILURE;
@@ -272,7 +262,7 @@ public final class PatternLoom {
             case HEM:
                 return (x + y) % 2;
             case SEAM:
-                return colourOf(p.row, x) + y;
+                return colourOf(rowOf(p), x) + y;
             default:
                 return 0;
         }
@@ -327,7 +317,15 @@ public final class PatternLoom {
         if (failure != NO_FAILURE) {
             return 0;
         }
-        return colourOf(p.row, number);
+        return colourOf(rowOf(p), number);
+    }
+
+    /** The dye is looked up anew each time, so that it is as it is by then; only FAST keeps its own row. */
+    private int[] rowOf(Pattern p) {
+        if (p.sort == FAST) {
+            return p.fastRow;
+        }
+        return isDye(p.b) ? dyes[p.b] : null;
     }
 
     private int colourOf(int[] row, int i) {
@@ -369,25 +367,25 @@ public final class PatternLoom {
         return failure != TIRED && (from == 0 || from == failure);
     }
 
-    /** What a call of pattern() told; the numbers a, b, c mean what the sort makes of them. */
+    /** What a call of pattern() told; the numbers a, b, c mean what the sort makes of them (b is the dye of SEAM, too). */
     private static final class Pattern {
         final int sort;
         final int a;
         final int b;
         final int c;
-        /** The colours of DYED, FAST and SEAM. */
-        final int[] row;
+        /** The dye of FAST as it was, or null. */
+        final int[] fastRow;
         /** The pattern of OLD, or null. */
         final Pattern old;
         /** How often a WORN one was asked since it last told c. */
         int wear;
 
-        Pattern(int sort, int a, int b, int c, int[] row, Pattern old) {
+        Pattern(int sort, int a, int b, int c, int[] fastRow, Pattern old) {
             this.sort = sort;
             this.a = a;
             this.b = b;
             this.c = c;
-            this.row = row;
+            this.fastRow = fastRow;
             this.old = old;
         }
     }

@@ -1,13 +1,5 @@
 /** What the document promises, promise by promise, on fresh objects. */
-public final class PatternLoomPromises {
-    private static final int MIN = Integer.MIN_VALUE, MAX = Integer.MAX_VALUE;
-    private static final int ZERO = -11, INDEX = -12, MISSING = -13, TIRED = -14;
-    private static final int PLAIN = 0, STRIPES = 1, TWILL = 2, MOVED = 3, TURNED = 4, OVER = 5, WHERE = 6;
-    private static final int DYED = 7, FAST = 8, NAMED = 9, WORN = 10, BOTH = 11, SAFE = 12, OLD = 13;
-
-    private static int wrong = 0;
-    private static String part = "";
-
+public final class PatternLoomPromises extends LoomTest {
     public static void main(String[] args) {
         newObject();
         dye();
@@ -36,37 +28,7 @@ public final class PatternLoomPromises {
         most();
         why();
         count();
-        System.out.println(wrong == 0 ? "all promises hold" : wrong + " answers are not as due");
-        if (wrong != 0) {
-            System.exit(1);
-        }
-    }
-
-    private static void due(String call, int got, int want) {
-        if (got != want) {
-            wrong++;
-            System.out.println(part + ": " + call + " answered " + got + ", due is " + want);
-        }
-    }
-
-    private static void dueAsk(PatternLoom l, int p, int x, int y, int want) {
-        String call = "ask(" + p + ", " + x + ", " + y + ")";
-        due(call, l.ask(p, x, y), want);
-        due(call + ", why()", l.why(), 0);
-    }
-
-    private static void dueFails(PatternLoom l, int p, int x, int y, int want) {
-        String call = "ask(" + p + ", " + x + ", " + y + ")";
-        due(call, l.ask(p, x, y), 0);
-        due(call + ", why()", l.why(), want);
-    }
-
-    private static void dueCloth(PatternLoom l, int... want) {
-        due("count(1)", l.count(1), want.length);
-        for (int i = 0; i < want.length; i++) {
-            due("cloth(" + i + ")", l.cloth(i), want[i]);
-        }
-        due("cloth() behind the last", l.cloth(want.length), 0);
+        end("all promises hold");
     }
 
     private static void newObject() {
