@@ -15,6 +15,8 @@ public final class PatternLoom {
     private static final int DYED = 7, FAST = 8, NAMED = 9, WORN = 10, BOTH = 11, SAFE = 12, OLD = 13;
     /** The sorts of the two patterns that no call can make. */
     private static final int HEM = 14, SEAM = 15;
+    /** SEAM has it as its b, as a DYED one has its dye. */
+    private static final int SEAM_DYE = 0;
 
     private static final int DYES = 4, DYE_COLOURS = 8, NAMES = 6;
     private static final int MOST_PATTERNS = 60, MOST_ASKED = 100, MOST_SAVED = 20;
@@ -39,7 +41,7 @@ public final class PatternLoom {
             }
         }
         names[0] = new Pattern(HEM, 0, 0, 0, null, null);
-        names[1] = new Pattern(SEAM, 0, 0, 0, null, null);
+        names[1] = new Pattern(SEAM, 0, SEAM_DYE, 0, null, null);
     }
 
     public int dye(int d, int i, int v) {
@@ -367,7 +369,7 @@ public final class PatternLoom {
         return failure != TIRED && (from == 0 || from == failure);
     }
 
-    /** What a call of pattern() told; the numbers a, b, c mean what the sort makes of them (b is the dye of SEAM, too). */
+    /** What a call of pattern() told; the numbers a, b, c mean what the sort makes of them. */
     private static final class Pattern {
         final int sort;
         final int a;

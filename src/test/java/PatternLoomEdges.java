@@ -1090,15 +1090,29 @@ public final class PatternLoomEdges extends LoomTest {
 
     private static void patternNotLookedAt() {
         part = "(What a SORT has not is not looked at.)";
-        for (int any : new int[] {MIN, -1, 99, MAX}) {
+        for (int any : new int[] {MIN, -1, 0, 99, MAX}) {
             PatternLoom l = new PatternLoom();
+            for (int i = 0; i <= 5; i++) {
+                l.pattern(PLAIN, i, any, any);
+            }
+            l.name(5, 5);
+            // the last number of each is what it tells at 1, 0
             int[][] all = {
-                {PLAIN, any, any, any}, {STRIPES, any, any, any}, {TWILL, any, any, any}, {MOVED, 0, any, any},
-                {TURNED, 0, 0, any}, {OVER, 0, 0, any}, {DYED, 0, 0, any}, {FAST, 0, 0, any}, {NAMED, 0, any, any},
-                {WORN, 0, 1, any}, {BOTH, 0, 0, any}, {SAFE, 0, 0, any}, {OLD, 0, any, any},
+                {PLAIN, 5, any, any, 5}, {TURNED, 5, 0, any, 5}, {OVER, 5, 5, any, 5}, {OVER, 0, 5, any, 5},
+                {DYED, 5, 3, any, 5}, {FAST, 5, 3, any, 5}, {NAMED, 5, 2, any, 7}, {OLD, 5, any, any, 5},
             };
-            for (int i = 0; i < all.length; i++) {
-                due("SORT " + all[i][0], l.pattern(all[i][0], all[i][1], all[i][2], all[i][3]), i);
+            for (int[] s : all) {
+                int number = l.count(0);
+                due("SORT " + s[0], l.pattern(s[0], s[1], s[2], s[3]), number);
+                dueAsk(l, number, 1, 0, s[4]);
+            }
+            int[][] unbound = {
+                {PLAIN, any, 0, 0}, {STRIPES, any, any, any}, {TWILL, any, any, any}, {MOVED, 5, any, any},
+                {NAMED, 5, any, 0}, {WORN, 5, 1, any}, {BOTH, 5, 5, any}, {SAFE, 5, 0, any},
+            };
+            for (int[] s : unbound) {
+                int number = l.count(0);
+                due("SORT " + s[0] + ", whose numbers may be any", l.pattern(s[0], s[1], s[2], s[3]), number);
             }
         }
     }
